@@ -723,7 +723,7 @@ public final class PressedFerns {
         }
 
         private void keepIfBetter(int bits, int worth) {
-            if (worth < leastWorth || isSmaller(bits)) {
+            if (worth < leastWorth || (worth == leastWorth && isSmaller(bits))) {
                 leastWorth = worth;
                 leastBits = bits;
             }

@@ -65,6 +65,7 @@ public final class AllTest {
         Ferns.come(x, 5, "m3");
         due.is("restore: the next number", x.about(2, 0), 2);
         due.is("restore: no tears of one that is gone", x.about(2, 4), Ferns.NONE);
+        goneOnes();
         PressedFerns tearful = Ferns.with(0, "1");
         tearful.image();
         Ferns.come(tearful, 0, "9");
@@ -72,6 +73,32 @@ public final class AllTest {
         tearful.restore();
         Ferns.come(tearful, 0, "9");
         due.is("restore: a new frond has no tears", tearful.about(1, 4), Ferns.NONE);
+    }
+
+    /** Fronds that came since the image are in nothing that is told or done. */
+    private static void goneOnes() {
+        PressedFerns x = Ferns.with(0, "3");
+        x.image();
+        Ferns.come(x, 1, "999999999");
+        for (int frond = 1; frond < 10; frond += 2) {
+            x.bank(frond);
+        }
+        x.restore();
+        due.is("gone: count(1)", x.count(1), 3);
+        due.is("gone: count(4)", x.count(4), 0);
+        due.is("gone: as", x.as(1, 0), Ferns.UNKNOWN);
+        due.is("gone: least", x.least(1, 1, 0), Ferns.NONE);
+        due.is("gone: month", x.month(true), 1);
+        due.is("gone: june", x.june(), 0);
+        x = Ferns.with(0, "3");
+        x.image();
+        Ferns.come(x, 1, "99");
+        x.restore();
+        due.is("gone, not banked: count(1)", x.count(1), 3);
+        due.is("gone, not banked: june", x.june(), 0);
+        due.is("gone, not banked: month", x.month(true), 1);
+        due.is("gone, not banked: count(3)", x.count(3), 1);
+        due.is("gone, not banked: least", x.least(1, 1, 0), Ferns.NONE);
     }
 
     private static void promise26() {

@@ -46,6 +46,12 @@ public final class WouldBeTest {
         least("64555", 8, 10, 3);
         least("5564", 8, 10, 3);
         least("m6m6m6", 12, 12, 3);
+        // Of two and two worth 9: 1 and 2 are a smaller number than 0 and 3.
+        least("3456", 7, 9, 6);
+        least("6453", 7, 9, 6);
+        // Two that are worth less go ahead of one.
+        least("339", 4, 6, 3);
+        least("933", 4, 6, 6);
         least("9999999999", 80, 90, 1023);
         least("9999999999", 81, Ferns.NONE, Ferns.NONE);
         least("p9p9p9p9p9p9p9p9p9p9", 90, 90, 1023);
@@ -135,6 +141,22 @@ public final class WouldBeTest {
         x = Ferns.owing(0, 1, 99, 1, 0, 99);
         due.is("clear: 99", x.clear(), 99);
         due.is("clear: nothing is owed", x.count(6), 0);
+        x = Ferns.owing(0, 5, 9, 5, 1, 8, 1, 4, 7, 4, 2, 6, 2, 3, 5, 3, 0, 4);
+        due.is("clear: of six", x.clear(), 4);
+        due.is("clear: of six, owes(0, 5)", x.owes(0, 5), 5);
+        due.is("clear: of six, owes(3, 0)", x.owes(3, 0), 0);
+        due.is("clear: of six, all", x.count(6), 15);
+        x = Ferns.owing(4, 0, 9, 5, 0, 9, 4, 5, 9, 5, 4, 3);
+        due.is("clear: the others stay", x.clear(), 3);
+        due.is("clear: the others stay, all", x.count(6), 24);
+        // Behind a ring of three one of two: nobody of the longer one is taken again.
+        x = Ferns.owing(0, 1, 2, 1, 2, 2, 2, 0, 2, 0, 2, 5);
+        due.is("clear: three, then none", x.clear(), 2);
+        x.debt(2, 1, 6);
+        x.debt(1, 2, 7);
+        due.is("clear: two then", x.clear(), 6);
+        due.is("clear: two then, owes(0, 2)", x.owes(0, 2), 5);
+        due.is("clear: two then, all", x.count(6), 6);
     }
 
     private static void promise19() {
@@ -374,8 +396,30 @@ public final class WouldBeTest {
             due.is("months: his own, " + seed, x.months(1, 0, seed, 0), 26);
             due.is("months: his own, the seed, " + seed, x.months(1, 0, seed, 2), afterPerson);
         }
+        promise23Kinds();
+    }
+
+    private static void promise23Kinds() {
         PressedFerns x = Ferns.with(2, "9b7m9p91");
         due.is("months: the same twice", x.months(20, 4, 7, 0), x.months(20, 4, 7, 0));
+        // From 0 the draws are 0, then of 1 frond 0, then person 0.
+        long s = 12345;
+        s = (1103515245L * s + 12345) % 2147483648L;
+        s = (1103515245L * s + 12345) % 2147483648L;
+        int person = (int) (s / 65536 % 6);
+        String[] kinds = {"", "b", "m", "p", "w"};
+        int[] dry = {8, 7, 9, 9, 6};
+        int[] damp = {7, 6, 8, 9, 4};
+        for (int kind = 0; kind < kinds.length; kind++) {
+            x = Ferns.with((person + 1) % 6, kinds[kind] + "9");
+            due.is("months: one dry month of one '" + kinds[kind] + "9'", x.months(1, 0, 0, 0), dry[kind]);
+            due.is("months: one damp month of one '" + kinds[kind] + "9'", x.months(1, 10, 0, 0), damp[kind]);
+            due.is("months: the seed then", x.months(1, 10, 0, 2), s);
+        }
+        x = Ferns.with(0, "p9");
+        due.is("months: a whole pressed one loses nothing", x.months(60, 10, 7, 0), 9);
+        x = Ferns.with(0, "w9");
+        due.is("months: a wet one loses all", x.months(60, 10, 7, 0), 0);
     }
 
     private static void promise23Refusals() {

@@ -7,6 +7,7 @@ public final class AllTest {
         promise25();
         promise26();
         promise27();
+        tenFronds();
         due.end();
     }
 
@@ -148,6 +149,24 @@ public final class AllTest {
         due.is("digest() changes nothing", x.digest(), told(x, "~\u0001"));
         Ferns.write(x, "x");
         due.is("digest() of one letter more", x.digest(), told(x, "~\u0001x"));
+    }
+
+    /** Ten fronds: as many as there can be, in each call that looks at all. */
+    private static void tenFronds() {
+        PressedFerns x = Ferns.with(5, "9999999999");
+        due.is("ten: count(1)", x.count(1), 90);
+        due.is("ten: june", x.june(), 0);
+        due.is("ten: month", x.month(true), 10);
+        due.is("ten: bank the last", x.bank(9), 7);
+        due.is("ten: month then", x.month(true), 9);
+        due.is("ten: count(1) then", x.count(1), 70);
+        due.is("ten: count(4)", x.count(4), 1);
+        due.is("ten: least", x.least(5, 54, 1), 511);
+        due.is("ten: months", x.months(1, 10, 0, 1), 1);
+        due.is("ten: image", x.image(), 10);
+        due.is("ten: digest", x.digest(), told(x, ""));
+        due.is("ten: restore", x.restore(), 10);
+        due.is("ten: digest then", x.digest(), told(x, ""));
     }
 
     /** What the document makes of the other calls' answers. */

@@ -248,6 +248,7 @@ public final class WouldBeTest {
         when("7", 0, 5, 0);
         when("7", 4, 0, 4);
         when("1", 9, 10, 9);
+        when("1", 1, 10, 1);
         when("0", 6, 5, 6);
         when("2", 6, 1, 0);
         when("b2", 7, 3, 7);

@@ -232,7 +232,7 @@ public final class PressedFerns {
         if (now.isAtBank(frond)) {
             return STATE;
         }
-        int orders = Ways.orders(now.kinds[frond], WHOLE_FROND, hands, months, now.leaflets[frond]);
+        int orders = Ways.orders(now.kinds[frond], hands, months, now.leaflets[frond]);
         return orders == 0 ? 0 : orders * ways.throughPeople(now, frond, from, hands);
     }
 
@@ -917,8 +917,12 @@ public final class PressedFerns {
 
         private final int[] rowsTo = new int[PEOPLE];
 
-        /** In how many orders of hands and damp months so many leaflets are left. */
-        static int orders(int kind, int leaflets, int hands, int months, int target) {
+        /** In how many orders of hands and damp months a whole frond is left with so many leaflets. */
+        static int orders(int kind, int hands, int months, int target) {
+            return ordersFrom(kind, WHOLE_FROND, hands, months, target);
+        }
+
+        private static int ordersFrom(int kind, int leaflets, int hands, int months, int target) {
             // Leaflets never grow again.
             if (hands < 0 || hands > MOST_HANDS || months < 0 || months > MOST_DAMP || leaflets < target) {
                 return 0;
@@ -926,8 +930,8 @@ public final class PressedFerns {
             if (hands == 0 && months == 0) {
                 return leaflets == target ? 1 : 0;
             }
-            return orders(kind, Kind.behindHand(kind, leaflets), hands - 1, months, target)
-                + orders(kind, Kind.behindDamp(kind, leaflets), hands, months - 1, target);
+            return ordersFrom(kind, Kind.behindHand(kind, leaflets), hands - 1, months, target)
+                + ordersFrom(kind, Kind.behindDamp(kind, leaflets), hands, months - 1, target);
         }
 
         /** In how many rows of people so many hands bring the frond its tears and its owner. */

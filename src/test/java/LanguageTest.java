@@ -122,6 +122,7 @@ public final class LanguageTest {
         library(code);
         made(code);
         lengths(code);
+        recursion(code);
     }
 
     private static void library(String code) {
@@ -157,5 +158,18 @@ public final class LanguageTest {
                 head = "";
             }
         }
+    }
+
+    /** A method that calls itself is private. */
+    private static void recursion(String code) {
+        Matcher m = Pattern.compile("(?s)\\n( {4}| {8})(\\S[^\\n;]*?)(\\w+)\\([^\\n;{]*\\) \\{\\n(.*?)\\n\\1\\}").matcher(code);
+        int recursive = 0;
+        while (m.find()) {
+            if (Pattern.compile("(?<![.\\w])" + m.group(3) + "\\(").matcher(m.group(4)).find()) {
+                recursive++;
+                due.holds("rule 8: " + m.group(3) + " calls itself", m.group(2).startsWith("private "));
+            }
+        }
+        due.is("methods that call themselves", recursive, 3);
     }
 }

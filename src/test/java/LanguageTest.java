@@ -6,7 +6,9 @@ import java.nio.file.Files;
 import java.nio.file.Path;
 import java.util.ArrayList;
 import java.util.List;
+import java.util.Map;
 import java.util.Set;
+import java.util.TreeMap;
 import java.util.TreeSet;
 import java.util.regex.Matcher;
 import java.util.regex.Pattern;
@@ -160,16 +162,46 @@ public final class LanguageTest {
         }
     }
 
-    /** A method that calls itself is private. */
+    /** A method that calls itself is private; other calls stay at most eight deep. */
     private static void recursion(String code) {
         Matcher m = Pattern.compile("(?s)\\n( {4}| {8})(\\S[^\\n;]*?)(\\w+)\\([^\\n;{]*\\) \\{\\n(.*?)\\n\\1\\}").matcher(code);
+        Map<String, Set<String>> calledBy = new TreeMap<>();
         int recursive = 0;
         while (m.find()) {
+            Set<String> called = calledBy.computeIfAbsent(m.group(3), name -> new TreeSet<>());
+            called.addAll(callsIn(m.group(4)));
             if (Pattern.compile("(?<![.\\w])" + m.group(3) + "\\(").matcher(m.group(4)).find()) {
                 recursive++;
                 due.holds("rule 8: " + m.group(3) + " calls itself", m.group(2).startsWith("private "));
             }
         }
         due.is("methods that call themselves", recursive, 3);
+        for (String name : calledBy.keySet()) {
+            int deep = depth(calledBy, name, 0);
+            due.holds("rule 11: calls of " + name + " go " + deep + " deep", deep <= 8);
+        }
+    }
+
+    private static Set<String> callsIn(String body) {
+        Set<String> called = new TreeSet<>();
+        Matcher m = Pattern.compile("(\\w+)\\(").matcher(body);
+        while (m.find()) {
+            called.add(m.group(1));
+        }
+        return called;
+    }
+
+    /** Methods are taken by their names alone: those of one name count as one. */
+    private static int depth(Map<String, Set<String>> calledBy, String name, int above) {
+        int deepest = 0;
+        // Where methods of one name call one another's, the way would not end.
+        if (above < 20) {
+            for (String called : calledBy.getOrDefault(name, Set.of())) {
+                if (calledBy.containsKey(called) && !called.equals(name)) {
+                    deepest = Math.max(deepest, depth(calledBy, called, above + 1));
+                }
+            }
+        }
+        return 1 + deepest;
     }
 }
